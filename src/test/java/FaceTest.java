@@ -28,8 +28,8 @@ public final class FaceTest {
         "long digest 0"
     };
     private static final String[] RULED_OUT = {
-        "import ", "package ", "->", "::", "finally", "catch", "synchronized", "assert ", "static {", "System.out",
-        "Double.", "Math.addExact", "hashCode", "toString()", "null"
+        "import ", "package ", "->", "::", "finally", "synchronized", "assert ", "static {", "System.out", "Double.",
+        "Exact(", "hashCode", "equals(Object"
     };
 
     private static int wrong = 0;

@@ -18,6 +18,7 @@ public final class PromisesTest {
         newObject();
         storm();
         stormBreaksPromises();
+        lastDay();
         cross();
         trade();
         tradeRefused();
@@ -217,6 +218,23 @@ public final class PromisesTest {
         due("count(3) on the day", x.count(3), 8);
         due("storm() behind the day", x.storm(), 8);
         due("count(3)", x.count(3), 0);
+    }
+
+    /** The day 9999 lies behind 512 calls, where answers are free; what the document says there is kept all the same. */
+    private static void lastDay() {
+        part = "promise 2, the last day";
+        StormPurses x = new StormPurses();
+        storms(x, 9998);
+        duePurse(x, 4, 0, 0, 10, 0);
+        x.promise(4, 1, 2, 9);
+        due("twos come on the last day", x.canKeepIn(0), 1);
+        x.promise(4, 1, 1, 9);
+        due("ones would come behind it", x.canKeepIn(1), StormPurses.NONE);
+        type(x, "s;s");
+        due("run() up to the last day", x.run(), 1);
+        due("count(0)", x.count(0), 9999);
+        due("count(7)", x.count(7), 0);
+        dueThrows(x, "storm()", STATE, () -> x.storm());
     }
 
     private static void cross() {
@@ -585,7 +603,8 @@ public final class PromisesTest {
         part = "promise 12, wrong inputs";
         StormPurses x = new StormPurses();
         dueThrows(x, "run() of nothing", ARGUMENT, () -> x.run());
-        for (String text : new String[] {"s;", "x", "x0", "p01=1/", "p01=1", "k", "ss", "p11=1/0", ";", "k0;;", "s;q"}) {
+        String[] texts = {"s;", "x", "x0", "p01=1/", "p01=1", "k", "ss", "p11=1/0", ";", "k0;;", "s;q"};
+        for (String text : texts) {
             x.clearBuffer();
             type(x, text);
             dueThrows(x, "run() of " + text, ARGUMENT, () -> x.run());
