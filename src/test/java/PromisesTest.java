@@ -1,153 +1,49 @@
-import java.util.ArrayList;
-import java.util.List;
-
 /** Each promise of the document by hand-made cases: ordinary inputs, the edges that it names, and wrong inputs. */
-public final class PromisesTest {
-    private static final Class<?> INDEX = IndexOutOfBoundsException.class;
-    private static final Class<?> ARGUMENT = IllegalArgumentException.class;
-    private static final Class<?> STATE = IllegalStateException.class;
-
-    private static int wrong = 0;
-    private static String part = "";
-
-    private interface Call {
-        void go();
-    }
-
+public final class PromisesTest extends Checks {
     public static void main(String[] args) {
-        newObject();
-        storm();
-        stormBreaksPromises();
-        lastDay();
-        cross();
-        trade();
-        tradeRefused();
-        tradeWrongInputs();
-        worth();
-        set();
-        promise();
-        promiseWrongInputs();
-        fulfil();
-        fulfilChoosesAmongWays();
-        fulfilRefused();
-        append();
-        clearBuffer();
-        firstError();
-        firstErrorByPlace();
-        run();
-        runStops();
-        runWrongInputs();
-        keep();
-        goBack();
-        undo();
-        undoOfEachMethod();
-        caps();
-        islanderOf();
-        promiseOf();
-        owed();
-        count();
-        where();
-        homeIn();
-        fewest();
-        richest();
-        canKeepIn();
-        richShare();
-        digest();
-        System.out.println(wrong == 0 ? "all answers are as due" : wrong + " answers are not as due");
-        if (wrong != 0) {
-            System.exit(1);
-        }
-    }
-
-    // ---- helpers
-
-    private static void due(String call, long got, long want) {
-        if (got != want) {
-            wrong++;
-            System.out.println(part + ": " + call + " answered " + got + ", due is " + want);
-        }
-    }
-
-    private static void dueShare(String call, double got, double want) {
-        if (got != want) {
-            wrong++;
-            System.out.println(part + ": " + call + " answered " + got + ", due is " + want);
-        }
-    }
-
-    /** The call throws just this exception, and changes nothing. */
-    private static void dueThrows(StormPurses x, String call, Class<?> want, Call made) {
-        long before = x.digest();
-        Class<?> got = null;
-        try {
-            made.go();
-        } catch (RuntimeException e) {
-            got = e.getClass();
-        }
-        if (got != want) {
-            wrong++;
-            System.out.println(part + ": " + call + " threw " + got + ", due is " + want);
-        }
-        due(call + " left the digest", x.digest(), before);
-    }
-
-    private static void type(StormPurses x, String text) {
-        for (char sign : text.toCharArray()) {
-            x.append(sign);
-        }
-    }
-
-    private static int errorOf(String text) {
-        StormPurses x = new StormPurses();
-        type(x, text);
-        return x.firstError();
-    }
-
-    private static void storms(StormPurses x, int many) {
-        for (int storm = 0; storm < many; storm++) {
-            x.storm();
-        }
-    }
-
-    private static void duePurse(StormPurses x, int islander, int zeroth, int first, int second, int third) {
-        due("caps(" + islander + ", 0)", x.caps(islander, 0), zeroth);
-        due("caps(" + islander + ", 1)", x.caps(islander, 1), first);
-        due("caps(" + islander + ", 2)", x.caps(islander, 2), second);
-        due("caps(" + islander + ", 3)", x.caps(islander, 3), third);
-    }
-
-    /** Crosses the path, so that it leads from the one islander to the other one. */
-    private static void lead(StormPurses x, int islander, int to) {
-        for (int other = 0; other < 8; other++) {
-            if (x.islanderOf(other, 1) == to) {
-                x.cross(islander, other);
-                return;
-            }
-        }
-    }
-
-    /** Trades, kept, broken and refused, in the order of count. */
-    private static void dueCounts(StormPurses x, int trades, int kept, int broken, int refused) {
-        due("count(4)", x.count(4), trades);
-        due("count(5)", x.count(5), kept);
-        due("count(6)", x.count(6), broken);
-        due("count(7)", x.count(7), refused);
-    }
-
-    /** The islander 0 gets caps of all colours: 4 of the colour 0, 2 of 1, 1 of 2, 1 of 3. */
-    private static StormPurses mixed() {
-        StormPurses x = new StormPurses();
-        x.set(9);
-        x.trade(0, 0, 2, 1, 1, 2);
-        x.trade(0, 0, 2, 2, 2, 1);
-        x.trade(0, 0, 2, 3, 3, 1);
-        return x;
+        test("promise 1", PromisesTest::newObject);
+        test("promise 2", PromisesTest::storm);
+        test("promise 2, broken", PromisesTest::stormBreaksPromises);
+        test("promise 3", PromisesTest::cross);
+        test("promise 4", PromisesTest::trade);
+        test("promise 4, refused", PromisesTest::tradeRefused);
+        test("promise 4, wrong inputs", PromisesTest::tradeWrongInputs);
+        test("promise 5", PromisesTest::worth);
+        test("promise 6", PromisesTest::set);
+        test("promise 7", PromisesTest::promise);
+        test("promise 7, wrong inputs", PromisesTest::promiseWrongInputs);
+        test("promise 8", PromisesTest::fulfil);
+        test("promise 8, ways", PromisesTest::fulfilChoosesAmongWays);
+        test("promise 8, refused", PromisesTest::fulfilRefused);
+        test("promise 9", PromisesTest::append);
+        test("promise 10", PromisesTest::clearBuffer);
+        test("promise 11", PromisesTest::firstError);
+        test("promise 11, errors", PromisesTest::firstErrorByPlace);
+        test("promise 12", PromisesTest::run);
+        test("promise 12, stops", PromisesTest::runStops);
+        test("promise 12, wrong inputs", PromisesTest::runWrongInputs);
+        test("promise 13", PromisesTest::keep);
+        test("promise 14", PromisesTest::goBack);
+        test("promise 15", PromisesTest::undo);
+        test("undoable", PromisesTest::undoOfEachMethod);
+        test("promise 16", PromisesTest::caps);
+        test("promise 17", PromisesTest::islanderOf);
+        test("promise 18", PromisesTest::promiseOf);
+        test("promise 19", PromisesTest::owed);
+        test("promise 20", PromisesTest::count);
+        test("promise 21", PromisesTest::where);
+        test("promise 22", PromisesTest::homeIn);
+        test("promise 23", PromisesTest::fewest);
+        test("promise 24", PromisesTest::richest);
+        test("promise 25", PromisesTest::canKeepIn);
+        test("promise 26", PromisesTest::richShare);
+        test("promise 27", PromisesTest::digest);
+        end();
     }
 
     // ---- promises 1 to 6
 
     private static void newObject() {
-        part = "promise 1";
         StormPurses x = new StormPurses();
         duePurse(x, 0, 10, 0, 0, 0);
         duePurse(x, 1, 0, 10, 0, 0);
@@ -175,7 +71,6 @@ public final class PromisesTest {
     }
 
     private static void storm() {
-        part = "promise 2";
         StormPurses x = new StormPurses();
         due("storm()", x.storm(), 0);
         due("count(0)", x.count(0), 1);
@@ -193,7 +88,6 @@ public final class PromisesTest {
     }
 
     private static void stormBreaksPromises() {
-        part = "promise 2, broken";
         StormPurses x = new StormPurses();
         x.promise(0, 1, 1, 0);
         x.promise(0, 2, 2, 1);
@@ -220,25 +114,7 @@ public final class PromisesTest {
         due("count(3)", x.count(3), 0);
     }
 
-    /** The day 9999 lies behind 512 calls, where answers are free; what the document says there is kept all the same. */
-    private static void lastDay() {
-        part = "promise 2, the last day";
-        StormPurses x = new StormPurses();
-        storms(x, 9998);
-        duePurse(x, 4, 0, 0, 10, 0);
-        x.promise(4, 1, 2, 9);
-        due("twos come on the last day", x.canKeepIn(0), 1);
-        x.promise(4, 1, 1, 9);
-        due("ones would come behind it", x.canKeepIn(1), StormPurses.NONE);
-        type(x, "s;s");
-        due("run() up to the last day", x.run(), 1);
-        due("count(0)", x.count(0), 9999);
-        due("count(7)", x.count(7), 0);
-        dueThrows(x, "storm()", STATE, () -> x.storm());
-    }
-
     private static void cross() {
-        part = "promise 3";
         StormPurses x = new StormPurses();
         due("cross(2, 5)", x.cross(2, 5), 6);
         due("islanderOf(2, 1)", x.islanderOf(2, 1), 6);
@@ -256,7 +132,6 @@ public final class PromisesTest {
     }
 
     private static void trade() {
-        part = "promise 4";
         StormPurses x = new StormPurses();
         due("trade of all", x.trade(0, 0, 10, 1, 1, 5), 0);
         duePurse(x, 0, 0, 5, 0, 0);
@@ -274,7 +149,6 @@ public final class PromisesTest {
     }
 
     private static void tradeRefused() {
-        part = "promise 4, refused";
         StormPurses x = new StormPurses();
         due("too few, and too few, and unfair", x.trade(0, 0, 11, 1, 1, 99), 1);
         due("too few of the second", x.trade(0, 0, 10, 1, 1, 11), 2);
@@ -294,7 +168,6 @@ public final class PromisesTest {
     }
 
     private static void tradeWrongInputs() {
-        part = "promise 4, wrong inputs";
         StormPurses x = new StormPurses();
         for (int bad : new int[] {-1, 8, Integer.MIN_VALUE, Integer.MAX_VALUE}) {
             dueThrows(x, "first " + bad, INDEX, () -> x.trade(bad, 0, 0, 1, 0, 0));
@@ -316,7 +189,6 @@ public final class PromisesTest {
     }
 
     private static void worth() {
-        part = "promise 5";
         StormPurses x = new StormPurses();
         due("worth(0, 9)", x.worth(0, 9), 1);
         due("worth(1, 1)", x.worth(1, 1), 2);
@@ -336,7 +208,6 @@ public final class PromisesTest {
     }
 
     private static void set() {
-        part = "promise 6";
         StormPurses x = new StormPurses();
         due("set(9)", x.set(9), 0);
         due("set(9)", x.set(9), 9);
@@ -351,7 +222,6 @@ public final class PromisesTest {
     // ---- promises 7 and 8
 
     private static void promise() {
-        part = "promise 7";
         StormPurses x = new StormPurses();
         storms(x, 3);
         for (int number = 0; number < 8; number++) {
@@ -374,7 +244,6 @@ public final class PromisesTest {
     }
 
     private static void promiseWrongInputs() {
-        part = "promise 7, wrong inputs";
         StormPurses x = new StormPurses();
         for (int bad : new int[] {-1, 8, Integer.MIN_VALUE, Integer.MAX_VALUE}) {
             dueThrows(x, "from " + bad, INDEX, () -> x.promise(bad, 0, 1, 0));
@@ -395,7 +264,6 @@ public final class PromisesTest {
     }
 
     private static void fulfil() {
-        part = "promise 8";
         StormPurses x = new StormPurses();
         x.promise(1, 6, 8, 5);
         x.promise(3, 0, 90, 5);
@@ -421,7 +289,6 @@ public final class PromisesTest {
     }
 
     private static void fulfilChoosesAmongWays() {
-        part = "promise 8, ways";
         StormPurses x = mixed();
         duePurse(x, 0, 4, 2, 1, 1);
         x.promise(0, 5, 9, 0);
@@ -458,7 +325,6 @@ public final class PromisesTest {
     }
 
     private static void fulfilRefused() {
-        part = "promise 8, refused";
         StormPurses x = new StormPurses();
         x.promise(1, 0, 7, 5);
         x.promise(1, 0, 22, 5);
@@ -477,7 +343,6 @@ public final class PromisesTest {
     // ---- promises 9 to 12
 
     private static void append() {
-        part = "promise 9";
         StormPurses x = new StormPurses();
         for (int bad : new int[] {-1, 0, 32, 127, 65536 + 's', Integer.MIN_VALUE}) {
             dueThrows(x, "append(" + bad + ")", ARGUMENT, () -> x.append(bad));
@@ -494,7 +359,6 @@ public final class PromisesTest {
     }
 
     private static void clearBuffer() {
-        part = "promise 10";
         StormPurses x = new StormPurses();
         due("clearBuffer()", x.clearBuffer(), 0);
         type(x, "x01");
@@ -506,8 +370,13 @@ public final class PromisesTest {
         due("count(9)", x.count(9), 0);
     }
 
+    private static int errorOf(String text) {
+        StormPurses x = new StormPurses();
+        type(x, text);
+        return x.firstError();
+    }
+
     private static void firstError() {
-        part = "promise 11";
         String[] whole = {"", "s", "s;s", "x00", "x77", "p07=1/0", "p70=99/9", "p01=10/0", "k0", "k7",
             "s;x12;p34=56/7;k0", "k0;k0;s"};
         for (String text : whole) {
@@ -521,7 +390,6 @@ public final class PromisesTest {
 
     /** The last character but those behind "!" is the first syntax error. */
     private static void firstErrorByPlace() {
-        part = "promise 11, errors";
         String[] texts = {";", "S", "1", "ss", "s,", "s;;", "x8", "x08", "x07s", "x01=", "xx",
             "p8", "p08", "p00", "p77", "p01s", "p01=0", "p01=/", "p01=;", "p01=1;", "p01=100", "p01=1s", "p01=99;",
             "p01=1//", "p01=1/s", "p01=1/;", "p01=1/00", "p01=1/0s", "k8", "k9", "k;", "k00", "k0s", "X", "P", "K",
@@ -540,7 +408,6 @@ public final class PromisesTest {
     }
 
     private static void run() {
-        part = "promise 12";
         StormPurses x = new StormPurses();
         type(x, "p30=18/1;p12=9/0;x01;s;k0");
         due("run()", x.run(), 4);
@@ -570,7 +437,6 @@ public final class PromisesTest {
     }
 
     private static void runStops() {
-        part = "promise 12, stops";
         StormPurses x = new StormPurses();
         type(x, "k0;s");
         due("no such promise", x.run(), 0);
@@ -600,7 +466,6 @@ public final class PromisesTest {
     }
 
     private static void runWrongInputs() {
-        part = "promise 12, wrong inputs";
         StormPurses x = new StormPurses();
         dueThrows(x, "run() of nothing", ARGUMENT, () -> x.run());
         String[] texts = {"s;", "x", "x0", "p01=1/", "p01=1", "k", "ss", "p11=1/0", ";", "k0;;", "s;q"};
@@ -616,7 +481,6 @@ public final class PromisesTest {
     // ---- promises 13 to 15
 
     private static void keep() {
-        part = "promise 13";
         StormPurses x = new StormPurses();
         due("keep(0)", x.keep(0), 0);
         storms(x, 2);
@@ -633,7 +497,6 @@ public final class PromisesTest {
     }
 
     private static void goBack() {
-        part = "promise 14";
         StormPurses x = new StormPurses();
         dueThrows(x, "goBack(-1)", ARGUMENT, () -> x.goBack(-1));
         dueThrows(x, "goBack(2)", ARGUMENT, () -> x.goBack(2));
@@ -676,7 +539,6 @@ public final class PromisesTest {
     }
 
     private static void undo() {
-        part = "promise 15";
         StormPurses x = new StormPurses();
         storms(x, 9);
         due("count(9)", x.count(9), 6);
@@ -700,7 +562,6 @@ public final class PromisesTest {
 
     /** Each undoable method saves one state, which is the one from before it; the others save none. */
     private static void undoOfEachMethod() {
-        part = "undoable";
         StormPurses x = mixed();
         for (int number = 0; number < 8; number++) {
             x.promise(0, 1, number + 1, 0);
@@ -755,7 +616,6 @@ public final class PromisesTest {
     // ---- promises 16 to 20
 
     private static void caps() {
-        part = "promise 16";
         StormPurses x = mixed();
         duePurse(x, 0, 4, 2, 1, 1);
         duePurse(x, 1, 2, 8, 0, 0);
@@ -769,7 +629,6 @@ public final class PromisesTest {
     }
 
     private static void islanderOf() {
-        part = "promise 17";
         StormPurses x = mixed();
         due("islanderOf(0, 0)", x.islanderOf(0, 0), 4 + 2 * 2 + 5 + 9);
         x.cross(0, 3);
@@ -797,7 +656,6 @@ public final class PromisesTest {
     }
 
     private static void promiseOf() {
-        part = "promise 18";
         StormPurses x = mixed();
         storms(x, 8);
         x.promise(0, 5, 19, 9);
@@ -819,7 +677,6 @@ public final class PromisesTest {
     }
 
     private static void owed() {
-        part = "promise 19";
         StormPurses x = new StormPurses();
         x.promise(0, 1, 5, 0);
         x.promise(1, 0, 7, 1);
@@ -839,7 +696,6 @@ public final class PromisesTest {
     }
 
     private static void count() {
-        part = "promise 20";
         StormPurses x = mixed();
         x.promise(0, 1, 1, 0);
         x.promise(0, 1, 1, 0);
@@ -861,7 +717,6 @@ public final class PromisesTest {
     // ---- promises 21 to 27
 
     private static void where() {
-        part = "promise 21";
         StormPurses x = new StormPurses();
         x.cross(0, 3);
         x.cross(5, 6);
@@ -894,7 +749,6 @@ public final class PromisesTest {
     }
 
     private static void homeIn() {
-        part = "promise 22";
         StormPurses x = new StormPurses();
         dueHome(x, 8);
         x.cross(0, 3);
@@ -920,7 +774,6 @@ public final class PromisesTest {
     }
 
     private static void fewest() {
-        part = "promise 23";
         StormPurses x = mixed();
         int[] want = {1, 1, 2, 2, 1, 2, 2, 3, 1, 2, 2, 3, 3, 2, 3, 3, 4, 4, 5, 6, 7, 8, -1};
         for (int sum = 1; sum <= want.length; sum++) {
@@ -949,7 +802,6 @@ public final class PromisesTest {
     }
 
     private static void richest() {
-        part = "promise 24";
         StormPurses x = new StormPurses();
         due("of 3 and 7 the lowest", x.richest(), 3);
         x.storm();
@@ -965,7 +817,6 @@ public final class PromisesTest {
     }
 
     private static void canKeepIn() {
-        part = "promise 25";
         StormPurses x = new StormPurses();
         x.promise(0, 1, 45, 9);
         due("with the purse of 7", x.canKeepIn(0), 1);
@@ -1003,7 +854,6 @@ public final class PromisesTest {
     }
 
     private static void richShare() {
-        part = "promise 26";
         StormPurses x = new StormPurses();
         dueShare("richShare()", x.richShare(), 90.0 / 340.0);
         for (int colour = 0; colour < 4; colour++) {
@@ -1016,73 +866,32 @@ public final class PromisesTest {
     }
 
     private static void digest() {
-        part = "promise 27";
-        StormPurses x = mixed();
-        int[] worths = {1, 2, 5, 9};
-        due("digest()", x.digest(), digestOf(x, worths, 0, 0, ""));
-        x.promise(0, 1, 19, 4);
-        x.promise(3, 6, 9, 9);
-        x.promise(5, 2, 99, 0);
-        x.keep(1);
-        type(x, "s;p01=5/7");
-        x.cross(2, 6);
-        due("digest()", x.digest(), digestOf(x, worths, 0, 1, "s;p01=5/7"));
-        x.run();
-        x.keep(0);
-        type(x, "~!");
-        due("digest()", x.digest(), digestOf(x, worths, 1, 1, "~!"));
-        for (int colour = 0; colour < 4; colour++) {
-            worths[colour] = 7 - colour;
-            x.worth(colour, worths[colour]);
-        }
-        due("digest()", x.digest(), digestOf(x, worths, 1, 1, "~!"));
-        due("digest() again", x.digest(), digestOf(x, worths, 1, 1, "~!"));
+        int[] atFirst = {1, 2, 5, 9};
+        dueDigest(digested(0), atFirst, 0, 0, "");
+        dueDigest(digested(1), atFirst, 0, 1, "s;p01=5/7");
+        dueDigest(digested(2), atFirst, 1, 1, "~!");
+        dueDigest(digested(3), new int[] {7, 6, 5, 4}, 1, 1, "~!");
     }
 
-    /** The digest by the document's words, out of what the other calls answer. */
-    private static long digestOf(StormPurses x, int[] worths, int slot, int slotToo, String buffer) {
-        List<Long> values = new ArrayList<>();
-        for (int what = 0; what < 10; what++) {
-            values.add((long) x.count(what));
+    /** Behind so many steps, on an object of its own, as each digest is compared by some 300 calls. */
+    private static StormPurses digested(int steps) {
+        StormPurses x = mixed();
+        if (steps >= 1) {
+            x.promise(0, 1, 19, 4);
+            x.promise(3, 6, 9, 9);
+            x.promise(5, 2, 99, 0);
+            x.keep(1);
+            type(x, "s;p01=5/7");
+            x.cross(2, 6);
         }
-        for (int worth : worths) {
-            values.add((long) worth);
+        if (steps >= 2) {
+            x.run();
+            x.keep(0);
+            type(x, "~!");
         }
-        for (int islander = 0; islander < 8; islander++) {
-            for (int colour = 0; colour < 4; colour++) {
-                values.add((long) x.caps(islander, colour));
-            }
-            for (int what = 0; what < 5; what++) {
-                values.add((long) x.islanderOf(islander, what));
-            }
-            values.add((long) x.where(islander, 7, 0));
-            values.add((long) x.where(islander, 7, 1));
-            values.add((long) x.fewest(islander, 17, 0));
-            values.add((long) x.fewest(islander, 17, 1));
-            for (int to = 0; to < 8; to++) {
-                values.add((long) x.owed(islander, to));
-            }
+        for (int colour = 0; steps >= 3 && colour < 4; colour++) {
+            x.worth(colour, 7 - colour);
         }
-        for (int number = 0; number < x.count(3); number++) {
-            for (int what = 0; what < 5; what++) {
-                values.add((long) x.promiseOf(number, what));
-            }
-            values.add((long) x.canKeepIn(number));
-        }
-        values.add((long) x.homeIn(0));
-        values.add((long) x.homeIn(1));
-        values.add((long) x.richest());
-        values.add(Double.doubleToLongBits(x.richShare()));
-        values.add((long) slot);
-        values.add((long) slotToo);
-        values.add((long) buffer.length());
-        for (char sign : buffer.toCharArray()) {
-            values.add((long) sign);
-        }
-        long hash = 3643;
-        for (long value : values) {
-            hash = 31 * hash + value;
-        }
-        return hash;
+        return x;
     }
 }
