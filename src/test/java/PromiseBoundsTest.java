@@ -155,6 +155,7 @@ public final class PromiseBoundsTest extends Checks {
         test("23: out of all caps", PromiseBoundsTest::fewestOfAll);
         test("24: of several the lowest", PromiseBoundsTest::lowestOfRichest);
         test("24: the last one", PromiseBoundsTest::lastIsRichest);
+        test("24: whoever it is", PromiseBoundsTest::eachIsRichest);
         test("25: number, without promises", () -> noWait(0));
         test("25: number, with one", () -> noWait(1));
         test("25: number, with 8", () -> noWait(8));
@@ -164,6 +165,7 @@ public final class PromiseBoundsTest extends Checks {
         test("25: NONE if there are none", PromiseBoundsTest::canNeverKeep);
         test("26: all purses of one worth", PromiseBoundsTest::leastShare);
         test("26: one purse with all caps", PromiseBoundsTest::mostShare);
+        test("26: all numbers are integers, but for a share", PromiseBoundsTest::shareOfOdd);
         test("27: a new island", () -> dueDigest(new StormPurses(), WORTHS, 0, 0, ""));
         test("27: without a buffer, and with a full one", PromiseBoundsTest::digestOfBuffer);
         test("27: for each slot", PromiseBoundsTest::digestOfSlots);
@@ -885,10 +887,12 @@ public final class PromiseBoundsTest extends Checks {
         due("owed(0, 7) of nothing", x.owed(0, 7), 0);
         x.promise(7, 0, 1, 0);
         x.promise(0, 6, 2, 0);
-        for (int number = 2; number < 8; number++) {
+        x.promise(6, 7, 3, 0);
+        for (int number = 3; number < 8; number++) {
             x.promise(0, 7, 99, 0);
         }
-        due("owed(0, 7)", x.owed(0, 7), 594);
+        due("owed(0, 7)", x.owed(0, 7), 495);
+        due("owed(6, 7)", x.owed(6, 7), 3);
         due("owed(7, 0)", x.owed(7, 0), 1);
         due("owed(0, 6)", x.owed(0, 6), 2);
         x.storm();
@@ -1131,6 +1135,21 @@ public final class PromiseBoundsTest extends Checks {
         due("with all caps", oneHasAll().richest(), 7);
     }
 
+    private static void eachIsRichest() {
+        StormPurses x = new StormPurses();
+        x.set(9);
+        x.trade(1, 1, 0, 3, 3, 1);
+        int richest = 1;
+        for (int colour = 0; colour < 4; colour++) {
+            x.worth(colour, 3);
+        }
+        for (int storms = 0; storms < 8; storms++) {
+            due("behind " + storms + " storms", x.richest(), richest);
+            x.storm();
+            richest = (richest + 1) % 8;
+        }
+    }
+
     // ---- promises 25 to 27
 
     private static void noWait(int many) {
@@ -1215,6 +1234,17 @@ public final class PromiseBoundsTest extends Checks {
         x.worth(3, 1);
         dueShare("richShare()", x.richShare(), 1.0);
         dueShare("richShare() at first", new StormPurses().richShare(), 90.0 / 340.0);
+    }
+
+    private static void shareOfOdd() {
+        StormPurses x = new StormPurses();
+        for (int colour = 0; colour < 4; colour++) {
+            x.worth(colour, 7);
+        }
+        x.set(9);
+        x.trade(0, 0, 1, 6, 0, 0);
+        dueShare("richShare()", x.richShare(), 77.0 / 560.0);
+        due("richest()", x.richest(), 6);
     }
 
     private static void digestOfBuffer() {

@@ -105,6 +105,7 @@ public final class TermsBoundsTest extends Checks {
     private static void snapshots() {
         test("two slots", TermsBoundsTest::twoSlots);
         test("a snapshot is all", TermsBoundsTest::snapshotIsAll);
+        test("a snapshot is all: 8 promises", TermsBoundsTest::snapshotOfEight);
         test("a snapshot is not the buffer", TermsBoundsTest::snapshotWithoutBuffer);
         test("a snapshot is not the slots", TermsBoundsTest::snapshotWithoutSlots);
         test("a snapshot is not the saved states", TermsBoundsTest::snapshotWithoutSaved);
@@ -131,6 +132,7 @@ public final class TermsBoundsTest extends Checks {
         test("saves: promise", () -> saves(x -> x.promise(7, 0, 99, 9)));
         test("saves: fulfil", () -> saves(x -> x.fulfil(1)));
         test("saves: run, as one call", () -> saves(x -> typeAndRun(x, "s;x01;p34=5/6;k1;s")));
+        test("saves: run, with 8 promises", TermsBoundsTest::eightAreSaved);
         test("the others save nothing", TermsBoundsTest::othersSaveNothing);
         test("what is counted so far is saved", TermsBoundsTest::countsAreSaved);
         test("the buffer is not saved", TermsBoundsTest::bufferIsNotSaved);
@@ -463,6 +465,15 @@ public final class TermsBoundsTest extends Checks {
         due("more than one cap", x.fulfil(2), StormPurses.NONE);
         due("just one cap", x.fulfil(1), 1);
         duePurse(x, 2, 0, 0, 9, 0);
+        StormPurses threes = new StormPurses();
+        threes.worth(0, 3);
+        for (int sum = 1; sum <= 8; sum++) {
+            threes.promise(0, 1, sum, 0);
+        }
+        for (int sum = 8; sum >= 1; sum--) {
+            due("threes for " + sum, threes.fulfil(sum - 1), sum % 3 == 0 ? sum / 3 : StormPurses.NONE);
+        }
+        duePurse(threes, 0, 7, 0, 0, 0);
     }
 
     private static void wholePurse() {
@@ -749,29 +760,57 @@ public final class TermsBoundsTest extends Checks {
         StormPurses x = new StormPurses();
         x.promise(0, 1, 1, 9);
         x.promise(0, 1, 1, 0);
+        x.promise(4, 1, 1, 9);
         x.fulfil(0);
         x.trade(0, 0, 2, 1, 1, 1);
         x.trade(0, 0, 99, 1, 1, 1);
         x.storm();
         x.promise(7, 0, 99, 9);
+        x.promise(7, 0, 98, 0);
         x.cross(2, 5);
         x.worth(2, 8);
         x.set(6);
         x.keep(0);
         long before = x.digest();
-        typeAndRun(x, "s;x30;p12=5/6;k0");
-        x.fulfil(0);
-        x.trade(3, 0, 2, 5, 0, 0);
+        x.promise(1, 2, 1, 0);
+        x.fulfil(3);
+        typeAndRun(x, "s;x30;p12=5/6;p12=5/6;k7");
+        x.trade(1, 1, 0, 2, 2, 0);
+        x.trade(1, 0, 99, 2, 0, 0);
         x.worth(2, 1);
         x.set(0);
+        dueCounts(x, 2, 2, 2, 2);
         x.goBack(0);
         due("digest()", x.digest(), before);
         dueCounts(x, 1, 1, 1, 1);
         due("the day", x.count(0), 1);
-        due("promises", x.count(3), 1);
+        due("promises", x.count(3), 3);
+        due("the last promise", x.promiseOf(2, 2), 98);
         due("the setting", x.count(8), 6);
         due("the path", x.islanderOf(2, 1), 6);
         due("a worth", x.worth(2, 1), 8);
+    }
+
+    private static void snapshotOfEight() {
+        StormPurses x = eight();
+        x.keep(0);
+        x.goBack(0);
+        storms(x, 10);
+        for (int number = 0; number < 8; number++) {
+            x.promise(7, 6, 99, 0);
+        }
+        x.goBack(0);
+        dueEight(x);
+    }
+
+    private static void dueEight(StormPurses x) {
+        due("count(3)", x.count(3), 8);
+        for (int number = 0; number < 8; number++) {
+            due("from whom " + number + " is", x.promiseOf(number, 0), 0);
+            due("to whom " + number + " is", x.promiseOf(number, 1), 1);
+            due("the sum of " + number, x.promiseOf(number, 2), number + 1);
+            due("the day of " + number, x.promiseOf(number, 3), 9);
+        }
     }
 
     private static void snapshotWithoutBuffer() {
@@ -817,11 +856,12 @@ public final class TermsBoundsTest extends Checks {
         StormPurses x = new StormPurses();
         x.promise(1, 0, 7, 9);
         x.promise(3, 0, 9, 9);
+        x.promise(5, 4, 99, 8);
         x.keep(0);
         long before = x.digest();
         call.go(x);
-        due("count(9)", x.count(9), 3);
-        due("undo()", x.undo(), 2);
+        due("count(9)", x.count(9), 4);
+        due("undo()", x.undo(), 3);
         due("digest()", x.digest(), before);
     }
 
@@ -836,6 +876,14 @@ public final class TermsBoundsTest extends Checks {
         due("undo()", x.undo(), 5);
         due("refused so far", x.count(7), 0);
         due("promises", x.count(3), 8);
+    }
+
+    private static void eightAreSaved() {
+        StormPurses x = eight();
+        due("run()", typeAndRun(x, "k7;p76=99/0;k0;p67=98/1;k0"), 4);
+        due("promises", x.count(3), 8);
+        due("undo()", x.undo(), 5);
+        dueEight(x);
     }
 
     private static void othersSaveNothing() {
