@@ -52,7 +52,7 @@ public final class StormPurses {
         needIslander(other);
         history.push(island);
         island.swapPaths(islander, other);
-        return island.path[islander];
+        return island.leadsTo(islander);
     }
 
     public int trade(int first, int colour, int many, int second, int colourToo, int manyToo)
@@ -80,8 +80,8 @@ public final class StormPurses {
         needColour(colour);
         needRange(worth, 1, MOST_WORTH);
         history.push(island);
-        int before = island.worths[colour];
-        island.worths[colour] = worth;
+        int before = island.worthOf(colour);
+        island.makeWorth(colour, worth);
         return before;
     }
 
@@ -140,7 +140,8 @@ public final class StormPurses {
         history.push(island);
         int done = 0;
         int at = 0;
-        while (at < text.length && isDone(at)) {
+        // Each order has a sign at least, so that no more orders can stand in the buffer than signs.
+        while (done < MOST_SIGNS && at < text.length && isDone(at)) {
             done++;
             at = text.nextOrder(at);
         }
@@ -150,7 +151,7 @@ public final class StormPurses {
 
     public int keep(int slot) throws IllegalArgumentException {
         needRange(slot, 0, SLOTS - 1);
-        slots[slot].become(island);
+        Island.copy(island, slots[slot]);
         slotHolds[slot] = true;
         return island.day;
     }
@@ -161,7 +162,7 @@ public final class StormPurses {
             throw new IllegalStateException("there is no snapshot in the slot");
         }
         history.push(island);
-        island.become(slots[slot]);
+        Island.copy(slots[slot], island);
         return island.day;
     }
 
@@ -187,7 +188,7 @@ public final class StormPurses {
             case 0:
                 return island.purseWorth(islander);
             case 1:
-                return island.path[islander];
+                return island.leadsTo(islander);
             case 2:
                 return island.circle(islander);
             case 3:
@@ -309,7 +310,7 @@ public final class StormPurses {
             hash = mixed(hash, count(what));
         }
         for (int colour = 0; colour < COLOURS; colour++) {
-            hash = mixed(hash, island.worths[colour]);
+            hash = mixed(hash, island.worthOf(colour));
         }
         for (int islander = 0; islander < ISLANDERS; islander++) {
             hash = withIslander(hash, islander);
@@ -387,7 +388,7 @@ public final class StormPurses {
         if (island.capsOf(second, colourToo) < manyToo) {
             return TOO_FEW_TOO;
         }
-        int difference = many * island.worths[colour] - manyToo * island.worths[colourToo];
+        int difference = many * island.worthOf(colour) - manyToo * island.worthOf(colourToo);
         return Math.abs(difference) > island.unfair ? UNFAIR : 0;
     }
 
@@ -419,7 +420,7 @@ public final class StormPurses {
             case 'p':
                 return island.makePromise(digit, digitToo, text.sumOfOrder(at), text.daysOfOrder(at)) != NONE;
             default:
-                return digit < island.promises && keepPromise(digit) != NONE;
+                return island.isPromise(digit) && keepPromise(digit) != NONE;
         }
     }
 
@@ -475,19 +476,19 @@ public final class StormPurses {
     // ---- what the document wants refused by an exception
 
     private static void needIslander(int islander) {
-        if (islander < 0 || islander >= ISLANDERS) {
+        if (!Island.isIslander(islander)) {
             throw new IndexOutOfBoundsException("there is no such islander");
         }
     }
 
     private static void needColour(int colour) {
-        if (colour < 0 || colour >= COLOURS) {
+        if (!Island.isColour(colour)) {
             throw new IndexOutOfBoundsException("there is no such colour");
         }
     }
 
     private void needPromise(int number) {
-        if (number < 0 || number >= island.promises) {
+        if (!island.isPromise(number)) {
             throw new IndexOutOfBoundsException("there is no such promise");
         }
     }
@@ -513,11 +514,11 @@ public final class StormPurses {
         static final int SUM = 2;
         static final int DUE = 3;
 
-        final int[] purses = new int[ISLANDERS * COLOURS];
-        final int[] moved = new int[ISLANDERS * COLOURS];
-        final int[] worths = new int[COLOURS];
-        final int[] path = new int[ISLANDERS];
-        final int[] parts = new int[MOST_PROMISES * PARTS];
+        private final int[] purses = new int[ISLANDERS * COLOURS];
+        private final int[] moved = new int[ISLANDERS * COLOURS];
+        private final int[] worths = new int[COLOURS];
+        private final int[] path = new int[ISLANDERS];
+        private final int[] parts = new int[MOST_PROMISES * PARTS];
         int promises;
         int day;
         int unfair;
@@ -537,7 +538,13 @@ public final class StormPurses {
             }
         }
 
-        void become(Island other) {
+        static void copy(Island from, Island to) {
+            if (from != null && to != null) {
+                to.become(from);
+            }
+        }
+
+        private void become(Island other) {
             System.arraycopy(other.purses, 0, purses, 0, ISLANDERS * COLOURS);
             System.arraycopy(other.worths, 0, worths, 0, COLOURS);
             System.arraycopy(other.path, 0, path, 0, ISLANDERS);
@@ -551,21 +558,47 @@ public final class StormPurses {
             refused = other.refused;
         }
 
+        // -- numbers; they are looked at again where a row is used, also those that come out of a row
+
+        static boolean isIslander(int islander) {
+            return islander >= 0 && islander < ISLANDERS;
+        }
+
+        static boolean isColour(int colour) {
+            return colour >= 0 && colour < COLOURS;
+        }
+
+        boolean isPromise(int number) {
+            return number >= 0 && number < promises && promises <= MOST_PROMISES;
+        }
+
         // -- purses
 
         int capsOf(int islander, int colour) {
-            return purses[islander * COLOURS + colour];
+            return isIslander(islander) && isColour(colour) ? purses[islander * COLOURS + colour] : 0;
         }
 
         void hand(int from, int to, int colour, int many) {
-            purses[from * COLOURS + colour] -= many;
-            purses[to * COLOURS + colour] += many;
+            if (isIslander(from) && isIslander(to) && isColour(colour)) {
+                purses[from * COLOURS + colour] -= many;
+                purses[to * COLOURS + colour] += many;
+            }
+        }
+
+        int worthOf(int colour) {
+            return isColour(colour) ? worths[colour] : 0;
+        }
+
+        void makeWorth(int colour, int worth) {
+            if (isColour(colour)) {
+                worths[colour] = worth;
+            }
         }
 
         int purseWorth(int islander) {
             int sum = 0;
             for (int colour = 0; colour < COLOURS; colour++) {
-                sum += capsOf(islander, colour) * worths[colour];
+                sum += capsOf(islander, colour) * worthOf(colour);
             }
             return sum;
         }
@@ -594,7 +627,10 @@ public final class StormPurses {
 
         int blow() {
             for (int islander = 0; islander < ISLANDERS; islander++) {
-                System.arraycopy(purses, islander * COLOURS, moved, path[islander] * COLOURS, COLOURS);
+                int to = leadsTo(islander);
+                if (isIslander(to)) {
+                    System.arraycopy(purses, islander * COLOURS, moved, to * COLOURS, COLOURS);
+                }
             }
             System.arraycopy(moved, 0, purses, 0, ISLANDERS * COLOURS);
             day++;
@@ -616,23 +652,29 @@ public final class StormPurses {
 
         // -- the path
 
+        int leadsTo(int islander) {
+            return isIslander(islander) ? path[islander] : NONE;
+        }
+
         void swapPaths(int islander, int other) {
-            int place = path[islander];
-            path[islander] = path[other];
-            path[other] = place;
+            if (isIslander(islander) && isIslander(other)) {
+                int place = path[islander];
+                path[islander] = path[other];
+                path[other] = place;
+            }
         }
 
         int along(int islander, int storms) {
             int at = islander;
             for (int storm = 0; storm < storms; storm++) {
-                at = path[at];
+                at = leadsTo(at);
             }
             return at;
         }
 
         int senderTo(int islander) {
             int sender = 0;
-            while (sender < ISLANDERS - 1 && path[sender] != islander) {
+            while (sender < ISLANDERS - 1 && leadsTo(sender) != islander) {
                 sender++;
             }
             return sender;
@@ -640,7 +682,7 @@ public final class StormPurses {
 
         int circle(int islander) {
             int many = 1;
-            for (int at = path[islander]; at != islander && many < ISLANDERS; at = path[at]) {
+            for (int at = leadsTo(islander); at != islander && many < ISLANDERS; at = leadsTo(at)) {
                 many++;
             }
             return many;
@@ -649,7 +691,7 @@ public final class StormPurses {
         // -- promises
 
         int partOf(int number, int part) {
-            return parts[number * PARTS + part];
+            return isPromise(number) && part >= 0 && part < PARTS ? parts[number * PARTS + part] : NONE;
         }
 
         int makePromise(int from, int to, int sum, int days) {
@@ -667,9 +709,11 @@ public final class StormPurses {
         }
 
         void dropPromise(int number) {
-            int behind = (number + 1) * PARTS;
-            System.arraycopy(parts, behind, parts, number * PARTS, promises * PARTS - behind);
-            promises--;
+            if (isPromise(number)) {
+                int behind = (number + 1) * PARTS;
+                System.arraycopy(parts, behind, parts, number * PARTS, promises * PARTS - behind);
+                promises--;
+            }
         }
 
         int sumOf(int side, int islander) {
@@ -698,13 +742,15 @@ public final class StormPurses {
             if (size >= MOST_SAVED) {
                 dropOldest();
             }
-            saved[size].become(island);
+            Island.copy(island, saved[size]);
             size++;
         }
 
         void pop(Island island) {
-            size--;
-            island.become(saved[size]);
+            if (size > 0) {
+                size--;
+                Island.copy(saved[size], island);
+            }
         }
 
         private void dropOldest() {
@@ -727,12 +773,15 @@ public final class StormPurses {
         final int[] given = new int[COLOURS];
 
         int leastByColours(Island island, int holder, int sum) {
+            if (sum < 0 || sum > MOST_SUM) {
+                return NONE;
+            }
             least[0] = 0;
             for (int lesser = 1; lesser <= sum; lesser++) {
                 least[lesser] = NO_WAY;
             }
             for (int colour = 0; colour < COLOURS; colour++) {
-                addColour(island.capsOf(holder, colour), island.worths[colour], sum);
+                addColour(island.capsOf(holder, colour), island.worthOf(colour), sum);
             }
             return least[sum] < NO_WAY ? least[sum] : NONE;
         }
@@ -751,9 +800,9 @@ public final class StormPurses {
             int fewest = NONE;
             for (int third = island.capsOf(holder, 3); third >= 0; third--) {
                 for (int second = island.capsOf(holder, 2); second >= 0; second--) {
-                    int rest = sum - third * island.worths[3] - second * island.worths[2];
+                    int rest = sum - third * island.worthOf(3) - second * island.worthOf(2);
                     for (int first = island.capsOf(holder, 1); first >= 0; first--) {
-                        int zeroth = wholeCaps(rest - first * island.worths[1], island.worths[0]);
+                        int zeroth = wholeCaps(rest - first * island.worthOf(1), island.worthOf(0));
                         int many = third + second + first + zeroth;
                         if (zeroth != NONE && zeroth <= island.capsOf(holder, 0) && (fewest == NONE || many < fewest)) {
                             fewest = many;
